@@ -1,0 +1,102 @@
+import java.util.Objects;
+
+/** Counts the answers of one test that are not the ones that are due, and ends the test by them. */
+final class Check {
+    static final int[] NO_PLACES = {-1, 4, Integer.MIN_VALUE, Integer.MAX_VALUE};
+
+    /** A call of an object with one number that differs from try to try. */
+    interface Call {
+        Object on(Shortnumbers x, int number);
+    }
+
+    private final String test;
+    private int asked;
+    private int wrong;
+
+    Check(String test) {
+        this.test = test;
+    }
+
+    void due(String call, Object got, Object want) {
+        asked++;
+        if (!Objects.equals(got, want)) {
+            wrong++;
+            System.out.println(test + ": " + call + " answered " + got + ", due is " + want);
+        }
+    }
+
+    /** The call must throw just this exception, and the object must be what it was before. */
+    void refuses(String call, Shortnumbers x, Class<?> want, Call asking, int number) {
+        long digest = x.digest();
+        String texts = texts(x);
+        due(call + " with " + number, answer(x, asking, number), want);
+        due(call + " with " + number + ", then digest()", x.digest(), digest);
+        due(call + " with " + number + ", then the texts", texts(x), texts);
+    }
+
+    void refusesAll(String call, Class<?> want, Call asking, int... numbers) {
+        for (int number : numbers) {
+            refuses(call, filled(), want, asking, number);
+        }
+    }
+
+    void refusesPlaces(String call, Call asking) {
+        refusesAll(call, IndexOutOfBoundsException.class, asking, NO_PLACES);
+    }
+
+    void refusesWhat(String call, int last, Call asking) {
+        refusesAll(call, IllegalArgumentException.class, asking,
+                -1, last + 1, Integer.MIN_VALUE, Integer.MAX_VALUE);
+    }
+
+    void end() {
+        System.out.println(test + ": " + asked + " answers, " + wrong + " of them not as due");
+        if (wrong != 0 || asked == 0) {
+            System.exit(1);
+        }
+    }
+
+    /** What a call answers, or the class of what it throws. */
+    static Object answer(Shortnumbers x, Call asking, int number) {
+        try {
+            return asking.on(x, number);
+        } catch (RuntimeException e) {
+            return e.getClass();
+        }
+    }
+
+    static String texts(Shortnumbers x) {
+        return x.text(0) + "|" + x.text(1) + "|" + x.text(2) + "|" + x.text(3);
+    }
+
+    /** Empties a text and writes this there. */
+    static Shortnumbers type(Shortnumbers x, int text, String signs) {
+        x.clear(text);
+        for (int place = 0; place < signs.length(); place++) {
+            x.write(text, signs.charAt(place));
+        }
+        return x;
+    }
+
+    static Shortnumbers withText(String signs) {
+        return type(new Shortnumbers(), 0, signs);
+    }
+
+    /** An object in which no two things of a kind are alike, but for the flags. */
+    static Shortnumbers filled() {
+        Shortnumbers x = new Shortnumbers();
+        int[] bytes = {-5, 100, -128, 127};
+        int[] shorts = {300, -32768, 32767, -2};
+        int[] signs = {'A', 'z', '7', ' '};
+        String[] texts = {"12", "-1f", "true", "x"};
+        for (int k = 0; k < 4; k++) {
+            x.setByte(k, bytes[k]);
+            x.setShort(k, shorts[k]);
+            x.setSign(k, signs[k]);
+            x.setFlag(k, k == 1 || k == 2);
+            type(x, k, texts[k]);
+        }
+        x.knock();
+        return x;
+    }
+}
