@@ -53,12 +53,12 @@ public final class FlagsTest {
 
     private static void tells(String signs, boolean want) {
         for (boolean before : BOTH) {
-            Shortnumbers x = Check.withText(signs);
+            Shortnumbers x = Check.type(Check.withText(want ? "" : "true"), 1, signs);
             x.setFlag(3, before);
-            CHECK.due("parseFlag of " + signs, x.parseFlag(3, 0), want);
+            CHECK.due("parseFlag of " + signs, x.parseFlag(3, 1), want);
             CHECK.due("the flag then", is(x, 3), want);
             CHECK.due("the others", x.ofFlag(0, 0) + x.ofFlag(1, 0) + x.ofFlag(2, 0), 0);
-            CHECK.due("the text then", x.text(0), signs);
+            CHECK.due("the text then", x.text(1), signs);
         }
     }
 

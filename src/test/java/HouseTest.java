@@ -1,11 +1,14 @@
+import java.lang.reflect.Field;
+
 /** Promises 43 to 46: house, knock, isSound, digest. */
 public final class HouseTest {
     private static final Check CHECK = new Check("HouseTest");
 
-    public static void main(String[] args) {
+    public static void main(String[] args) throws ReflectiveOperationException {
         house();
         knock();
         isSound();
+        isNotSound();
         digest();
         CHECK.end();
     }
@@ -57,8 +60,20 @@ public final class HouseTest {
         }
     }
 
+    /** No call can make an object unsound, so the test puts numbers there that do not fit. */
+    private static void isNotSound() throws ReflectiveOperationException {
+        for (int k = 0; k < 4; k++) {
+            CHECK.due("isSound with a BYTE 128", withNumber("bytes", k, 128).isSound(), false);
+            CHECK.due("isSound with a BYTE -129", withNumber("bytes", k, -129).isSound(), false);
+            CHECK.due("isSound with a SHORT 32768", withNumber("shorts", k, 32768).isSound(), false);
+            CHECK.due("isSound with a SHORT -32769", withNumber("shorts", k, -32769).isSound(), false);
+            CHECK.due("isSound with a BYTE -128", withNumber("bytes", k, -128).isSound(), true);
+            CHECK.due("isSound with a SHORT 32767", withNumber("shorts", k, 32767).isSound(), true);
+        }
+    }
+
     /** Told by hand from the document, so that a fault of Model's digest shows here. */
-    private static void digest() {
+    private static void digest() throws ReflectiveOperationException {
         CHECK.due("digest of a new one", new Shortnumbers().digest(), byHand(new int[][] {
             {0, 0, 0, 0, 0}, {0, 0, 0, 0, 0}, {0, 0, -1, 0}, {0, 0, 0, 0, 0, 0, 0}, {0, 1237}, {},
             {0, 0, 0, 0, 0}, {0, 0, 0, 0, 0}, {0, 0, -1, 0}, {0, 0, 0, 0, 0, 0, 0}, {0, 1237}, {},
@@ -77,6 +92,38 @@ public final class HouseTest {
             {-1, 1, 1, -1, -1, 1}, {1, 10, 2, 2, 36}, {1}}));
         Shortnumbers x = Check.filled();
         CHECK.due("digest changes nothing", x.digest(), x.digest());
+        orders();
+        CHECK.due("digest of an unsound one", withNumber("bytes", 3, 128).digest(), byHand(new int[][] {
+            {0, 0, 0, 0, 0}, {0, 0, 0, 0, 0}, {0, 0, -1, 0}, {0, 0, 0, 0, 0, 0, 0}, {0, 1237},
+            {0, 0, 0, 0, 0}, {0, 0, 0, 0, 0}, {0, 0, -1, 0}, {0, 0, 0, 0, 0, 0, 0}, {0, 1237},
+            {0, 0, 0, 0, 0}, {0, 0, 0, 0, 0}, {0, 0, -1, 0}, {0, 0, 0, 0, 0, 0, 0}, {0, 1237},
+            {128, 128, 128, 128, 0}, {0, 0, 0, 0, 0}, {0, 0, -1, 0}, {0, 0, 0, 0, 0, 0, 0}, {0, 1237},
+            {0, 0, 0, 0, 0, 0}, {0, 0, 0, 2, 36}, {0}}));
+    }
+
+    /** Each pair that is compared stands here in another order than the pairs beside it. */
+    private static void orders() {
+        Shortnumbers x = new Shortnumbers();
+        x.setByte(1, -1);
+        x.setShort(1, 1);
+        x.setSign(0, 48);
+        x.setFlag(2, true);
+        CHECK.due("digest with orders", x.digest(), byHand(new int[][] {
+            {0, 0, 0, 0, 0}, {0, 0, 0, 0, 0}, {48, 48, 0, 12288}, {1, 0, 1, 0, 0, 0, 0}, {0, 1237},
+            {-1, -1, 255, -1, 1}, {1, 1, 1, 1, 256}, {0, 0, -1, 0}, {0, 0, 0, 0, 0, 0, 0}, {0, 1237},
+            {0, 0, 0, 0, 0}, {0, 0, 0, 0, 0}, {0, 0, -1, 0}, {0, 0, 0, 0, 0, 0, 0}, {1, 1231},
+            {0, 0, 0, 0, 0}, {0, 0, 0, 0, 0}, {0, 0, -1, 0}, {0, 0, 0, 0, 0, 0, 0}, {0, 1237},
+            {1, -1, -1, -1, 1, 1}, {0, 0, 1, 2, 36}, {1}}));
+    }
+
+    private static Shortnumbers withNumber(String row, int k, int number) throws ReflectiveOperationException {
+        Shortnumbers x = new Shortnumbers();
+        Field rows = Shortnumbers.class.getDeclaredField(row);
+        rows.setAccessible(true);
+        Field numbers = rows.get(x).getClass().getDeclaredField("numbers");
+        numbers.setAccessible(true);
+        ((int[]) numbers.get(rows.get(x)))[k] = number;
+        return x;
     }
 
     private static long byHand(int[][] values) {

@@ -136,21 +136,29 @@ public final class NumbersTest {
 
     /** Reads a text by 10, by a base and as told; want tells what is due, or REFUSED. */
     private static void read(Kind kind, String signs, int base, boolean isTold, int want) {
-        Shortnumbers x = Check.withText(signs);
-        kind.set(x, 1, 77);
-        int kept = want == REFUSED ? 77 : want;
-        if (isTold) {
-            CHECK.due(call(kind, "decode " + signs), kind.decode(x, 1, 0), want);
-        } else if (base == 10) {
-            CHECK.due(call(kind, "parse " + signs), kind.parse(x, 1, 0), want);
-            CHECK.due(call(kind, "is then"), kind.of(x, 1, 0), kept);
-            kind.set(x, 1, 77);
-            CHECK.due(call(kind, "parse " + signs + " by 10"), kind.parseBy(x, 1, 0, 10), want);
-        } else {
-            CHECK.due(call(kind, "parse " + signs + " by " + base), kind.parseBy(x, 1, 0, base), want);
+        for (int text = 0; text < 4; text++) {
+            if (isTold) {
+                read(kind, "decode " + signs, signs, text, want, (x, k) -> kind.decode(x, 1, k));
+            } else {
+                read(kind, "parse " + signs + " by " + base, signs, text, want,
+                        (x, k) -> kind.parseBy(x, 1, k, base));
+            }
+            if (base == 10 && !isTold) {
+                read(kind, "parse " + signs, signs, text, want, (x, k) -> kind.parse(x, 1, k));
+            }
         }
-        CHECK.due(call(kind, "is then"), kind.of(x, 1, 0), kept);
-        CHECK.due(call(kind, "the text then"), x.text(0), signs);
+    }
+
+    private static void read(Kind kind, String call, String signs, int text, int want, Check.Call reading) {
+        Shortnumbers x = new Shortnumbers();
+        for (int k = 0; k < 4; k++) {
+            kind.set(x, k, 77);
+            Check.type(x, k, k == text ? signs : "1");
+        }
+        CHECK.due(call(kind, call), reading.on(x, text), want);
+        CHECK.due(call(kind, call + ": is then"), kind.of(x, 1, 0), want == REFUSED ? 77 : want);
+        CHECK.due(call(kind, call + ": the others"), kind.of(x, 0, 0) + kind.of(x, 2, 0) + kind.of(x, 3, 0), 231);
+        CHECK.due(call(kind, call + ": the text then"), x.text(text), signs);
     }
 
     private static void parse(Kind kind) {
@@ -245,8 +253,10 @@ public final class NumbersTest {
         }
         for (int base : new int[] {Integer.MIN_VALUE, Integer.MAX_VALUE}) {
             Shortnumbers x = Check.filled();
+            x.write(0, '3');
+            x.write(0, '4');
             CHECK.due(call(kind, "write by " + base), kind.write(x, 0, 3, base), kind == BYTES ? 2 : 3);
-            CHECK.due(call(kind, "the texts"), Check.texts(x), "12|-1f|true|" + (kind == BYTES ? "-5" : "300"));
+            CHECK.due(call(kind, "the texts"), Check.texts(x), "1234|-1f|true|" + (kind == BYTES ? "-5" : "300"));
         }
     }
 
