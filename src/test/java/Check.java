@@ -2,6 +2,7 @@ import java.util.Objects;
 
 /** Counts the answers of one test that are not the ones that are due, and ends the test by them. */
 final class Check {
+    static final String TWENTY = "12345678901234567890";
     static final int[] NO_PLACES = {-1, 4, Integer.MIN_VALUE, Integer.MAX_VALUE};
 
     /** A call of an object with one number that differs from try to try. */
@@ -10,6 +11,7 @@ final class Check {
     }
 
     private final String test;
+    private String sentence = "";
     private int asked;
     private int wrong;
 
@@ -21,17 +23,30 @@ final class Check {
         asked++;
         if (!Objects.equals(got, want)) {
             wrong++;
-            System.out.println(test + ": " + call + " answered " + got + ", due is " + want);
+            System.out.println(test + ": " + sentence + call + " answered " + got + ", due is " + want);
         }
+    }
+
+    int asked() {
+        return asked;
+    }
+
+    /** What the answers that follow are asked about, for the line that tells a wrong one. */
+    void about(String what) {
+        sentence = what.isEmpty() ? "" : "\"" + what + "\": ";
     }
 
     /** The call must throw just this exception, and the object must be what it was before. */
     void refuses(String call, Shortnumbers x, Class<?> want, Call asking, int number) {
-        long digest = x.digest();
-        String texts = texts(x);
+        String before = state(x);
         due(call + " with " + number, answer(x, asking, number), want);
-        due(call + " with " + number + ", then digest()", x.digest(), digest);
-        due(call + " with " + number + ", then the texts", texts(x), texts);
+        due(call + " with " + number + ", then the state", state(x), before);
+    }
+
+    /** The call must have answered this, and the object must be now what the other one is. */
+    void leaves(String call, Object got, Object want, Shortnumbers x, Shortnumbers like) {
+        due(call, got, want);
+        due(call + ", then the state", state(x), state(like));
     }
 
     void refusesAll(String call, Class<?> want, Call asking, int... numbers) {
@@ -63,6 +78,17 @@ final class Check {
         } catch (RuntimeException e) {
             return e.getClass();
         }
+    }
+
+    /** All that an object keeps, so that two of them can be compared. */
+    static String state(Shortnumbers x) {
+        StringBuilder state = new StringBuilder("knocks " + x.house(0));
+        for (int k = 0; k < 4; k++) {
+            state.append(" | ").append(x.ofByte(k, 0)).append(' ').append(x.ofShort(k, 0))
+                    .append(' ').append(x.ofSign(k, 0)).append(' ').append(x.ofFlag(k, 0))
+                    .append(" [").append(x.text(k)).append(']');
+        }
+        return state.toString();
     }
 
     static String texts(Shortnumbers x) {
@@ -97,6 +123,23 @@ final class Check {
             type(x, k, texts[k]);
         }
         x.knock();
+        return x;
+    }
+
+    /** An object with the numbers, signs and texts that lie at the end of what there can be. */
+    static Shortnumbers full() {
+        Shortnumbers x = new Shortnumbers();
+        int[] bytes = {-128, 127, -1, 1};
+        int[] shorts = {-32768, 32767, -1, 128};
+        int[] signs = {127, 0, 'Z', '9'};
+        String[] texts = {TWENTY, "-0000000000000000080", "0000000000000000007f", "true                "};
+        for (int k = 0; k < 4; k++) {
+            x.setByte(k, bytes[k]);
+            x.setShort(k, shorts[k]);
+            x.setSign(k, signs[k]);
+            x.setFlag(k, true);
+            type(x, k, texts[k]);
+        }
         return x;
     }
 }

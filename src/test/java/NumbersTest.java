@@ -7,89 +7,8 @@ public final class NumbersTest {
         -32769, 65535, 65536, 65537, -65535, -65536, -65537, 8388608, Integer.MAX_VALUE,
         Integer.MAX_VALUE - 128, Integer.MIN_VALUE, Integer.MIN_VALUE + 1};
 
-    /** The calls that both kinds have. */
-    private interface Kind {
-        int span();
-
-        int set(Shortnumbers x, int k, int value);
-
-        int parse(Shortnumbers x, int k, int text);
-
-        int parseBy(Shortnumbers x, int k, int text, int base);
-
-        int decode(Shortnumbers x, int k, int text);
-
-        int write(Shortnumbers x, int k, int text, int base);
-
-        int add(Shortnumbers x, int k, int a, int b);
-
-        int of(Shortnumbers x, int k, int what);
-
-        String unsigned(Shortnumbers x, int k);
-
-        int compare(Shortnumbers x, int a, int b, boolean isUnsigned);
-
-        boolean same(Shortnumbers x, int a, int b);
-    }
-
-    private static final Kind BYTES = new Kind() {
-        public int span() { return 256; }
-
-        public int set(Shortnumbers x, int k, int value) { return x.setByte(k, value); }
-
-        public int parse(Shortnumbers x, int k, int text) { return x.parseByte(k, text); }
-
-        public int parseBy(Shortnumbers x, int k, int text, int base) {
-            return x.parseByteBy(k, text, base);
-        }
-
-        public int decode(Shortnumbers x, int k, int text) { return x.decodeByte(k, text); }
-
-        public int write(Shortnumbers x, int k, int text, int base) { return x.writeByte(k, text, base); }
-
-        public int add(Shortnumbers x, int k, int a, int b) { return x.addBytes(k, a, b); }
-
-        public int of(Shortnumbers x, int k, int what) { return x.ofByte(k, what); }
-
-        public String unsigned(Shortnumbers x, int k) { return x.unsignedByte(k); }
-
-        public int compare(Shortnumbers x, int a, int b, boolean isUnsigned) {
-            return x.compareBytes(a, b, isUnsigned);
-        }
-
-        public boolean same(Shortnumbers x, int a, int b) { return x.sameBytes(a, b); }
-    };
-
-    private static final Kind SHORTS = new Kind() {
-        public int span() { return 65536; }
-
-        public int set(Shortnumbers x, int k, int value) { return x.setShort(k, value); }
-
-        public int parse(Shortnumbers x, int k, int text) { return x.parseShort(k, text); }
-
-        public int parseBy(Shortnumbers x, int k, int text, int base) {
-            return x.parseShortBy(k, text, base);
-        }
-
-        public int decode(Shortnumbers x, int k, int text) { return x.decodeShort(k, text); }
-
-        public int write(Shortnumbers x, int k, int text, int base) { return x.writeShort(k, text, base); }
-
-        public int add(Shortnumbers x, int k, int a, int b) { return x.addShorts(k, a, b); }
-
-        public int of(Shortnumbers x, int k, int what) { return x.ofShort(k, what); }
-
-        public String unsigned(Shortnumbers x, int k) { return x.unsignedShort(k); }
-
-        public int compare(Shortnumbers x, int a, int b, boolean isUnsigned) {
-            return x.compareShorts(a, b, isUnsigned);
-        }
-
-        public boolean same(Shortnumbers x, int a, int b) { return x.sameShorts(a, b); }
-    };
-
     public static void main(String[] args) {
-        for (Kind kind : new Kind[] {BYTES, SHORTS}) {
+        for (Kind kind : Kind.values()) {
             set(kind);
             parse(kind);
             parseBy(kind);
@@ -109,7 +28,7 @@ public final class NumbersTest {
     }
 
     private static int cut(Kind kind, int value) {
-        return kind == BYTES ? (byte) value : (short) value;
+        return kind == Kind.BYTES ? (byte) value : (short) value;
     }
 
     private static int withoutSign(Kind kind, int number) {
@@ -118,7 +37,7 @@ public final class NumbersTest {
 
     /** The name of a call of a kind. */
     private static String call(Kind kind, String rest) {
-        return (kind == BYTES ? "byte: " : "short: ") + rest;
+        return (kind == Kind.BYTES ? "byte: " : "short: ") + rest;
     }
 
     private static void set(Kind kind) {
@@ -255,8 +174,8 @@ public final class NumbersTest {
             Shortnumbers x = Check.filled();
             x.write(0, '3');
             x.write(0, '4');
-            CHECK.due(call(kind, "write by " + base), kind.write(x, 0, 3, base), kind == BYTES ? 2 : 3);
-            CHECK.due(call(kind, "the texts"), Check.texts(x), "1234|-1f|true|" + (kind == BYTES ? "-5" : "300"));
+            CHECK.due(call(kind, "write by " + base), kind.write(x, 0, 3, base), kind == Kind.BYTES ? 2 : 3);
+            CHECK.due(call(kind, "the texts"), Check.texts(x), "1234|-1f|true|" + (kind == Kind.BYTES ? "-5" : "300"));
         }
     }
 
